@@ -576,13 +576,22 @@ public final class TuneHouse {
             return coins[ANEW];
         }
 
+        int out() {
+            return coins[OUT];
+        }
+
+        /** Of two NOTES that are no GAPS, so far off in PITCH with the KEY, and in BEATS. */
+        int ofTwo(int off, int late) {
+            int climb = coins[STEP] * (off < 0 ? -off : off);
+            int lag = coins[BEAT] * (late < 0 ? -late : late);
+            return (climb < coins[MOST] ? climb : coins[MOST]) + lag;
+        }
+
         int ofTwo(Tune t, int i, Tune u, int j, int k) {
             if (t.isGap(i) || u.isGap(j)) {
                 return 0;
             }
-            int off = Math.abs(t.pitchAt(i) + k - u.pitchAt(j));
-            int late = Math.abs(t.beatsAt(i) - u.beatsAt(j));
-            return Math.min(coins[STEP] * off, coins[MOST]) + coins[BEAT] * late;
+            return ofTwo(t.pitchAt(i) + k - u.pitchAt(j), t.beatsAt(i) - u.beatsAt(j));
         }
 
         int ofOne(Tune t, int i) {
@@ -654,15 +663,28 @@ public final class TuneHouse {
 
         /** Fills row i, and answers the least sum in it. */
         private int fillRow(Tune t, Tune u, int k, int i) {
+            // Most of a run's work is done in this loop: it reads the rows themselves.
+            int[] above = sums[i - 1];
+            int[] row = sums[i];
+            int pitch = t.pitchAt(i - 1);
+            int beats = t.beatsAt(i - 1);
             int alone = prices.ofOne(t, i - 1);
-            sums[i][0] = sums[i - 1][0] + alone;
-            int least = sums[i][0];
-            for (int j = 1; j <= u.length() && j <= MOST_NOTES; j++) {
-                int two = sums[i - 1][j - 1] + prices.ofTwo(t, i - 1, u, j - 1, k);
-                int one = sums[i - 1][j] + alone;
-                int other = sums[i][j - 1] + prices.ofOne(u, j - 1);
-                sums[i][j] = Math.min(two, Math.min(one, other));
-                least = Math.min(least, sums[i][j]);
+            int out = prices.out();
+            row[0] = above[0] + alone;
+            int least = row[0];
+            for (int j = 1; j <= u.length && j <= MOST_NOTES; j++) {
+                int two = above[j - 1];
+                int other = row[j - 1];
+                int met = u.pitches[j - 1];
+                if (met != NONE) {
+                    other += out;
+                    two += pitch == NONE ? 0 : prices.ofTwo(pitch + k - met, beats - u.beats[j - 1]);
+                }
+                int sum = above[j] + alone;
+                sum = other < sum ? other : sum;
+                sum = two < sum ? two : sum;
+                row[j] = sum;
+                least = sum < least ? sum : least;
             }
             return least;
         }
