@@ -24,6 +24,7 @@ public final class TuneHouse {
     private static final int MOST_COLUMNS = 2 * MOST_NOTES;
     private static final int MOST_CORRECTIONS = 200;
     private static final int MOST_DOUBLES = 60;
+    private static final int NO_BOUND = Integer.MAX_VALUE;
 
     private final Prices prices = new Prices();
     private final Aligner aligner = new Aligner(prices);
@@ -403,16 +404,13 @@ public final class TuneHouse {
             return i >= 0 && i < length;
         }
 
+        /** NONE of a GAP, and where there is no NOTE. */
         int pitchAt(int i) {
-            return has(i) ? pitches[i] : NONE;
+            return i >= 0 && i < length ? pitches[i] : NONE;
         }
 
         int beatsAt(int i) {
-            return has(i) ? beats[i] : 0;
-        }
-
-        boolean isGap(int i) {
-            return pitchAt(i) == NONE;
+            return i >= 0 && i < length ? beats[i] : 0;
         }
 
         boolean append(int pitch, int beatsOfIt) {
@@ -581,27 +579,28 @@ public final class TuneHouse {
         }
 
         /** Of two NOTES that are no GAPS, so far off in PITCH with the KEY, and in BEATS. */
-        int ofTwo(int off, int late) {
+        int ofNotes(int off, int late) {
             int climb = coins[STEP] * (off < 0 ? -off : off);
             int lag = coins[BEAT] * (late < 0 ? -late : late);
             return (climb < coins[MOST] ? climb : coins[MOST]) + lag;
         }
 
         int ofTwo(Tune t, int i, Tune u, int j, int k) {
-            if (t.isGap(i) || u.isGap(j)) {
+            int pitch = t.pitchAt(i);
+            int met = u.pitchAt(j);
+            if (pitch == NONE || met == NONE) {
                 return 0;
             }
-            return ofTwo(t.pitchAt(i) + k - u.pitchAt(j), t.beatsAt(i) - u.beatsAt(j));
+            return ofNotes(pitch + k - met, t.beatsAt(i) - u.beatsAt(j));
         }
 
         int ofOne(Tune t, int i) {
-            return t.isGap(i) ? 0 : coins[OUT];
+            return t.pitchAt(i) == NONE ? 0 : coins[OUT];
         }
     }
 
-    /** Finds the KEY told of two TUNES, and lays out the ALIGNMENT told with a KEY. */
+    /** Sums up ALIGNMENTS of two TUNES, and lays out the one told with a KEY. */
     private static final class Aligner {
-        private static final int NO_BOUND = Integer.MAX_VALUE;
         private final Prices prices;
         // sums[i][j] is the least sum of the first i NOTES of t and the first j of u.
         private final int[][] sums = new int[MOST_NOTES + 1][MOST_NOTES + 1];
@@ -611,82 +610,52 @@ public final class TuneHouse {
         private final int[] costs = new int[MOST_COLUMNS];
         private int columns;
         private int laidKey;
-        private int foundSum;
-        private int foundKey;
 
         Aligner(Prices prices) {
             this.prices = prices;
         }
 
-        int foundSum() {
-            return foundSum;
-        }
-
-        int foundKey() {
-            return foundKey;
-        }
-
-        /** Finds the DISTANCE and the KEY told. */
-        void search(Tune t, Tune u) {
-            foundSum = NO_BOUND;
-            foundKey = 0;
-            // Keys nearest to 0 come first, the lower of two before the other:
-            // the first with the least sum is the one told.
-            for (int n = 0; n <= 2 * TOP_KEY && foundSum > 0; n++) {
-                int k = n % 2 == 0 ? n / 2 : -(n + 1) / 2;
-                int sum = leastSum(t, u, k, foundSum);
-                if (sum < foundSum) {
-                    foundSum = sum;
-                    foundKey = k;
+        /** The least sum with a KEY, if it is below the bound; else the bound or more. */
+        int leastSum(Tune t, Tune u, int k, int bound) {
+            // Most of a run's work is done here: it reads the rows themselves, and calls little.
+            int out = prices.out();
+            fillFirstRow(u, out);
+            for (int i = 1; i <= t.length && i <= MOST_NOTES; i++) {
+                int[] above = sums[i - 1];
+                int[] row = sums[i];
+                int pitch = t.pitches[i - 1];
+                int beats = t.beats[i - 1];
+                int alone = pitch == NONE ? 0 : out;
+                row[0] = above[0] + alone;
+                int least = row[0];
+                for (int j = 1; j <= u.length && j <= MOST_NOTES; j++) {
+                    int two = above[j - 1];
+                    int other = row[j - 1];
+                    int met = u.pitches[j - 1];
+                    if (met != NONE) {
+                        other += out;
+                        two += pitch == NONE ? 0 : prices.ofNotes(pitch + k - met, beats - u.beats[j - 1]);
+                    }
+                    int sum = above[j] + alone;
+                    sum = other < sum ? other : sum;
+                    sum = two < sum ? two : sum;
+                    row[j] = sum;
+                    least = sum < least ? sum : least;
                 }
-            }
-        }
-
-        /** The least sum with a KEY, if it is below the bound; else the bound. */
-        private int leastSum(Tune t, Tune u, int k, int bound) {
-            fillFirstRow(u);
-            for (int i = 1; i <= t.length() && i <= MOST_NOTES; i++) {
                 // Sums never fall on the way: past a row that is dear throughout all is dear.
-                if (fillRow(t, u, k, i) >= bound) {
+                if (least >= bound) {
                     return bound;
                 }
             }
-            return Math.min(sums[t.length()][u.length()], bound);
+            return sums[t.length][u.length];
         }
 
-        private void fillFirstRow(Tune u) {
-            sums[0][0] = 0;
-            for (int j = 1; j <= u.length() && j <= MOST_NOTES; j++) {
-                sums[0][j] = sums[0][j - 1] + prices.ofOne(u, j - 1);
-            }
-        }
-
-        /** Fills row i, and answers the least sum in it. */
-        private int fillRow(Tune t, Tune u, int k, int i) {
-            // Most of a run's work is done in this loop: it reads the rows themselves.
-            int[] above = sums[i - 1];
-            int[] row = sums[i];
-            int pitch = t.pitchAt(i - 1);
-            int beats = t.beatsAt(i - 1);
-            int alone = prices.ofOne(t, i - 1);
-            int out = prices.out();
-            row[0] = above[0] + alone;
-            int least = row[0];
+        private void fillFirstRow(Tune u, int out) {
+            int[] row = sums[0];
+            row[0] = 0;
             for (int j = 1; j <= u.length && j <= MOST_NOTES; j++) {
-                int two = above[j - 1];
-                int other = row[j - 1];
-                int met = u.pitches[j - 1];
-                if (met != NONE) {
-                    other += out;
-                    two += pitch == NONE ? 0 : prices.ofTwo(pitch + k - met, beats - u.beats[j - 1]);
-                }
-                int sum = above[j] + alone;
-                sum = other < sum ? other : sum;
-                sum = two < sum ? two : sum;
-                row[j] = sum;
-                least = sum < least ? sum : least;
+                row[j] = row[j - 1] + (u.pitches[j - 1] == NONE ? 0 : out);
             }
-            return least;
         }
 
         /** Lays out the ALIGNMENT told with this KEY. */
@@ -762,7 +731,7 @@ public final class TuneHouse {
 
         private boolean isMeeting(Tune t, Tune u, int c) {
             // A column of one alone has NONE for the other, which reads like a GAP.
-            return !t.isGap(ofT[c]) && !u.isGap(ofU[c]);
+            return t.pitchAt(ofT[c]) != NONE && u.pitchAt(ofU[c]) != NONE;
         }
     }
 
@@ -802,12 +771,22 @@ public final class TuneHouse {
         /** Sees to it that the two are kept, and answers where. */
         private int learn(Sheet t, Sheet u) {
             int place = t.number * MOST_SHEETS + u.number;
-            if (!isKept[place]) {
-                aligner.search(t.known, u.known);
-                sums[place] = aligner.foundSum();
-                keys[place] = aligner.foundKey();
-                isKept[place] = true;
+            if (isKept[place]) {
+                return place;
             }
+            int least = NO_BOUND;
+            // Keys nearest to 0 come first, the lower of two before the other:
+            // the first with the least sum is the one told.
+            for (int n = 0; n <= 2 * TOP_KEY && least > 0; n++) {
+                int k = n % 2 == 0 ? n / 2 : -(n + 1) / 2;
+                int sum = aligner.leastSum(t.known, u.known, k, least);
+                if (sum < least) {
+                    least = sum;
+                    keys[place] = k;
+                }
+            }
+            sums[place] = least;
+            isKept[place] = true;
             return place;
         }
     }

@@ -39,6 +39,7 @@ public final class PromiseTest {
         habitForged();
         span();
         count();
+        firstAsked();
         refusalsChangeNothing();
         is.end();
     }
@@ -746,6 +747,34 @@ public final class PromiseTest {
         is.due("count(6)", x.count(6), NONE);
         is.due("count(MAX)", x.count(HIGH), NONE);
         is.due("count(MIN)", x.count(LOW), NONE);
+    }
+
+    /** Two tunes alike on day 0, 3 apart on day 1, with nothing asked yet. */
+    private static TuneHouse corrected() {
+        TuneHouse x = house(tune(20, 1, 30, 1, 40, 1), tune(20, 1, 30, 1, 40, 1), tune(20, 1, 30, 1, 40, 5));
+        x.doubles(0, 1);
+        x.days(1);
+        x.correct(1, 2, 41, 2);
+        return x;
+    }
+
+    private static void firstAsked() {
+        is.part("each question as the first one");
+        is.due("at", corrected().at(1, 2, 1, 0), 41);
+        is.due("distance", corrected().distance(0, 1, 1), 3);
+        is.due("key", corrected().key(1, 0, 1), 0);
+        is.due("column", corrected().column(0, 1, 1, 2, 2), 3);
+        is.due("family", corrected().family(1, 2, 1), 1);
+        is.due("kin", corrected().kin(1, 2, 1), 1);
+        is.due("sung", corrected().sung(1, 2, 1), 2);
+        is.due("source", corrected().source(2, 1), 0);
+        is.due("changes", corrected().changes(1, 1), 3);
+        is.due("all", corrected().all(1), 30 + 3 + 4);
+        // sheet 2 is 4 from sheet 0 and 5 from sheet 1
+        is.due("doubt", corrected().doubt(2, 0, 1), 0);
+        is.due("doubt with a margin", corrected().doubt(2, 1, 1), 1);
+        is.due("habit in the last column", corrected().habit(0, 1, 1, 0), -1);
+        is.due("habit, how many", corrected().habit(0, 1, 1, 1), 3);
     }
 
     private static void refusalsChangeNothing() {
