@@ -619,8 +619,10 @@ public final class TuneHouse {
         int leastSum(Tune t, Tune u, int k, int bound) {
             // Most of a run's work is done here: it reads the rows themselves, and calls little.
             int out = prices.out();
-            fillFirstRow(u, out);
-            for (int i = 1; i <= t.length && i <= MOST_NOTES; i++) {
+            int rows = Math.min(t.length, MOST_NOTES);
+            int places = Math.min(u.length, MOST_NOTES);
+            fillFirstRow(u, places, out);
+            for (int i = 1; i <= rows; i++) {
                 int[] above = sums[i - 1];
                 int[] row = sums[i];
                 int pitch = t.pitches[i - 1];
@@ -628,7 +630,7 @@ public final class TuneHouse {
                 int alone = pitch == NONE ? 0 : out;
                 row[0] = above[0] + alone;
                 int least = row[0];
-                for (int j = 1; j <= u.length && j <= MOST_NOTES; j++) {
+                for (int j = 1; j <= places; j++) {
                     int two = above[j - 1];
                     int other = row[j - 1];
                     int met = u.pitches[j - 1];
@@ -647,13 +649,13 @@ public final class TuneHouse {
                     return bound;
                 }
             }
-            return sums[t.length][u.length];
+            return sums[rows][places];
         }
 
-        private void fillFirstRow(Tune u, int out) {
+        private void fillFirstRow(Tune u, int places, int out) {
             int[] row = sums[0];
             row[0] = 0;
-            for (int j = 1; j <= u.length && j <= MOST_NOTES; j++) {
+            for (int j = 1; j <= places; j++) {
                 row[j] = row[j - 1] + (u.pitches[j - 1] == NONE ? 0 : out);
             }
         }
@@ -663,8 +665,8 @@ public final class TuneHouse {
             leastSum(t, u, k, NO_BOUND);
             laidKey = k;
             columns = 0;
-            int i = t.length();
-            int j = u.length();
+            int i = Math.min(t.length(), MOST_NOTES);
+            int j = Math.min(u.length(), MOST_NOTES);
             while ((i > 0 || j > 0) && columns < MOST_COLUMNS) {
                 if (i > 0 && j > 0 && takesTwo(t, i, u, j, k)) {
                     i--;

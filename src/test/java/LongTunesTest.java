@@ -5,13 +5,20 @@ public final class LongTunesTest {
     private static final Checks is = new Checks();
     private static int[][] pitch;
     private static int[][] beats;
+    private static int[] prices;
 
     public static void main(String[] args) {
-        for (int run = 0; run < 12; run++) {
+        for (int run = 0; run < 18; run++) {
             is.part("run " + run);
             Random dice = new Random(1000 + run);
             TuneHouse x = new TuneHouse();
             write(x, dice, run % 2 == 0 ? 12 : 61);
+            // The PRICES of a new house first, then others.
+            prices = new int[] {2, 8, 1, 5};
+            for (int which = 0; which < prices.length && run >= 6; which++) {
+                prices[which] = dice.nextInt(which % 2 == 0 ? 6 : 30);
+                is.due("price", x.price(which, prices[which]), true);
+            }
             for (int call = 0; call < 9; call++) {
                 askAll(x, call / 3, call % 3);
             }
@@ -113,13 +120,14 @@ public final class LongTunesTest {
     }
 
     private static int one(int t, int i) {
-        return pitch[t][i] == -1 ? 0 : 5;
+        return pitch[t][i] == -1 ? 0 : prices[3];
     }
 
     private static int two(int t, int u, int k, int i, int j) {
         if (pitch[t][i] == -1 || pitch[u][j] == -1) {
             return 0;
         }
-        return Math.min(8, 2 * Math.abs(pitch[t][i] + k - pitch[u][j])) + Math.abs(beats[t][i] - beats[u][j]);
+        int steps = prices[0] * Math.abs(pitch[t][i] + k - pitch[u][j]);
+        return Math.min(prices[1], steps) + prices[2] * Math.abs(beats[t][i] - beats[u][j]);
     }
 }

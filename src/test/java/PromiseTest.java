@@ -1,8 +1,5 @@
 /** Each promise by itself: ordinary inputs, the edges that the document names, wrong inputs. */
-public final class PromiseTest {
-    private static final int NONE = TuneHouse.NONE;
-    private static final int LOW = Integer.MIN_VALUE;
-    private static final int HIGH = Integer.MAX_VALUE;
+public final class PromiseTest extends Houses {
     private static final Checks is = new Checks();
 
     public static void main(String[] args) {
@@ -42,27 +39,6 @@ public final class PromiseTest {
         firstAsked();
         refusalsChangeNothing();
         is.end();
-    }
-
-    /** A house with one SHEET a row, sheet i of hand i % 6 from the year 1000 + i, WORDS i % 10. */
-    private static TuneHouse house(int[]... tunes) {
-        TuneHouse x = new TuneHouse();
-        for (int i = 0; i < tunes.length; i++) {
-            x.sheet(i % 6, 1000 + i, i % 10);
-            addNotes(x, i, tunes[i]);
-        }
-        return x;
-    }
-
-    /** The row holds PITCH, BEATS, PITCH, BEATS .. */
-    private static void addNotes(TuneHouse x, int sheet, int[] row) {
-        for (int i = 0; i + 1 < row.length; i += 2) {
-            x.note(sheet, row[i], row[i + 1]);
-        }
-    }
-
-    private static int[] tune(int... row) {
-        return row;
     }
 
     private static void newObject() {
