@@ -31,6 +31,17 @@ final class Checks {
         due("at(" + sheet + ", " + i + ", " + q + ", " + what + ") throws", threw, true);
     }
 
+    /** Asks for each COLUMN on DAY 0, all three of its numbers, and that there are no more. */
+    void dueColumns(TuneHouse x, int one, int other, int[][] rows) {
+        String of = "column(" + one + ", " + other + ", 0, ";
+        for (int i = 0; i < rows.length; i++) {
+            for (int what = 0; what < 3; what++) {
+                due(of + i + ", " + what + ")", x.column(one, other, 0, i, what), rows[i][what]);
+            }
+        }
+        due(of + rows.length + ", 2)", x.column(one, other, 0, rows.length, 2), TuneHouse.NONE);
+    }
+
     boolean isAnyWrong() {
         return wrong > 0;
     }

@@ -536,15 +536,9 @@ public final class PromiseEdgeTest extends Houses {
     private static void columnFirstAndLast() {
         is.part("promise 12: 'COLUMN i (from the first on)', '(NONE: none)'");
         TuneHouse x = house(tune(20, 1, 30, 2), tune(20, 4, 30, 2, 41, 16));
-        int[][] rows = {{0, 0, 3}, {1, 1, 0}, {NONE, 2, 5}};
-        for (int i = 0; i < rows.length; i++) {
-            for (int what = 0; what < 3; what++) {
-                is.due("COLUMN " + i + ", " + what, x.column(0, 1, 0, i, what), rows[i][what]);
-            }
-        }
+        is.dueColumns(x, 0, 1, new int[][] {{0, 0, 3}, {1, 1, 0}, {NONE, 2, 5}});
         is.due("the last one the other way, t", x.column(1, 0, 0, 2, 0), 2);
         is.due("the last one the other way, u", x.column(1, 0, 0, 2, 1), NONE);
-        is.due("past the last", x.column(0, 1, 0, 3, 2), NONE);
     }
 
     private static void columnMost() {

@@ -382,11 +382,11 @@ public final class PromiseTest extends Houses {
         is.part("promise 12");
         TuneHouse x = house(tune(10, 2, 12, 2, 14, 4), tune(10, 2, 14, 1), tune());
         int[][] rows = {{0, 0, 0}, {1, NONE, 5}, {2, 1, 3}};
-        dueColumns(x, 0, 1, rows);
-        dueColumns(x, 1, 0, new int[][] {{0, 0, 0}, {NONE, 1, 5}, {1, 2, 3}});
-        dueColumns(x, 0, 2, new int[][] {{0, NONE, 5}, {1, NONE, 5}, {2, NONE, 5}});
-        dueColumns(x, 2, 1, new int[][] {{NONE, 0, 5}, {NONE, 1, 5}});
-        dueColumns(x, 2, 2, new int[][] {});
+        is.dueColumns(x, 0, 1, rows);
+        is.dueColumns(x, 1, 0, new int[][] {{0, 0, 0}, {NONE, 1, 5}, {1, 2, 3}});
+        is.dueColumns(x, 0, 2, new int[][] {{0, NONE, 5}, {1, NONE, 5}, {2, NONE, 5}});
+        is.dueColumns(x, 2, 1, new int[][] {{NONE, 0, 5}, {NONE, 1, 5}});
+        is.dueColumns(x, 2, 2, new int[][] {});
         is.due("what -1", x.column(0, 1, 0, 0, -1), NONE);
         is.due("what 3", x.column(0, 1, 0, 0, 3), NONE);
         is.due("what MAX", x.column(0, 1, 0, 0, HIGH), NONE);
@@ -399,32 +399,22 @@ public final class PromiseTest extends Houses {
         is.due("price of it, day 0", x.column(0, 1, 0, 1, 2), 5);
     }
 
-    private static void dueColumns(TuneHouse x, int one, int other, int[][] rows) {
-        for (int i = 0; i < rows.length; i++) {
-            for (int what = 0; what < 3; what++) {
-                String call = "column(" + one + ", " + other + ", 0, " + i + ", " + what + ")";
-                is.due(call, x.column(one, other, 0, i, what), rows[i][what]);
-            }
-        }
-        is.due("past the last of " + one + ", " + other, x.column(one, other, 0, rows.length, 2), NONE);
-    }
-
     private static void columnTies() {
         is.part("promise 12, ties");
         TuneHouse x = house(tune(10, 1, 10, 1), tune(10, 1), tune(NONE, 0, NONE, 0), tune(30, 1), tune(10, 1, 30, 16));
         // the last of both meet, though the first could as well
-        dueColumns(x, 0, 1, new int[][] {{0, NONE, 5}, {1, 0, 0}});
-        dueColumns(x, 1, 0, new int[][] {{NONE, 0, 5}, {0, 1, 0}});
-        dueColumns(x, 2, 2, new int[][] {{0, 0, 0}, {1, 1, 0}});
-        dueColumns(x, 2, 0, new int[][] {{0, 0, 0}, {1, 1, 0}});
+        is.dueColumns(x, 0, 1, new int[][] {{0, NONE, 5}, {1, 0, 0}});
+        is.dueColumns(x, 1, 0, new int[][] {{NONE, 0, 5}, {0, 1, 0}});
+        is.dueColumns(x, 2, 2, new int[][] {{0, 0, 0}, {1, 1, 0}});
+        is.dueColumns(x, 2, 0, new int[][] {{0, 0, 0}, {1, 1, 0}});
         // 8 together, 4 alone: t's own NOTE is the last one
         x.price(3, 2);
-        dueColumns(x, 1, 3, new int[][] {{NONE, 0, 2}, {0, NONE, 2}});
-        dueColumns(x, 3, 1, new int[][] {{NONE, 0, 2}, {0, NONE, 2}});
+        is.dueColumns(x, 1, 3, new int[][] {{NONE, 0, 2}, {0, NONE, 2}});
+        is.dueColumns(x, 3, 1, new int[][] {{NONE, 0, 2}, {0, NONE, 2}});
         // 4 each alone is as dear as 8 together: two are taken
         x.price(3, 4);
-        dueColumns(x, 1, 3, new int[][] {{0, 0, 8}});
-        dueColumns(x, 4, 1, new int[][] {{0, 0, 0}, {1, NONE, 4}});
+        is.dueColumns(x, 1, 3, new int[][] {{0, 0, 8}});
+        is.dueColumns(x, 4, 1, new int[][] {{0, 0, 0}, {1, NONE, 4}});
     }
 
     private static void columnsMost() {

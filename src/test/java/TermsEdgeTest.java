@@ -587,44 +587,34 @@ public final class TermsEdgeTest extends Houses {
         TuneHouse x = house(tune(0, 1), tune(60, 1));
         x.price(3, 4);
         // 8 together, 4 and 4 alone
-        dueColumns(x, 0, 1, new int[][] {{0, 0, 8}});
-        dueColumns(x, 1, 0, new int[][] {{0, 0, 8}});
+        is.dueColumns(x, 0, 1, new int[][] {{0, 0, 8}});
+        is.dueColumns(x, 1, 0, new int[][] {{0, 0, 8}});
     }
 
     private static void elseTheFirstAlone() {
         is.part("'else t's NOTE alone'");
         TuneHouse x = house(tune(0, 1), tune(60, 1));
         x.price(3, 3);
-        dueColumns(x, 0, 1, new int[][] {{NONE, 0, 3}, {0, NONE, 3}});
-        dueColumns(x, 1, 0, new int[][] {{NONE, 0, 3}, {0, NONE, 3}});
+        is.dueColumns(x, 0, 1, new int[][] {{NONE, 0, 3}, {0, NONE, 3}});
+        is.dueColumns(x, 1, 0, new int[][] {{NONE, 0, 3}, {0, NONE, 3}});
     }
 
     private static void elseTheOtherAlone() {
         is.part("'else u's alone'");
         TuneHouse x = house(tune(20, 1, 30, 1), tune(20, 1, 30, 1, 41, 16), tune(30, 1));
-        dueColumns(x, 0, 1, new int[][] {{0, 0, 0}, {1, 1, 0}, {NONE, 2, 5}});
-        dueColumns(x, 1, 0, new int[][] {{0, 0, 0}, {1, 1, 0}, {2, NONE, 5}});
+        is.dueColumns(x, 0, 1, new int[][] {{0, 0, 0}, {1, 1, 0}, {NONE, 2, 5}});
+        is.dueColumns(x, 1, 0, new int[][] {{0, 0, 0}, {1, 1, 0}, {2, NONE, 5}});
         // Nothing of t is left where the first of u stands alone.
-        dueColumns(x, 2, 0, new int[][] {{NONE, 0, 5}, {0, 1, 0}});
+        is.dueColumns(x, 2, 0, new int[][] {{NONE, 0, 5}, {0, 1, 0}});
     }
 
     private static void fromItsLastColumnBack() {
         is.part("'from its last COLUMN back'");
         TuneHouse x = house(tune(20, 1, 20, 1, 20, 1), tune(20, 1), tune(NONE, 0, NONE, 0), tune(20, 1, 20, 1));
-        dueColumns(x, 0, 1, new int[][] {{0, NONE, 5}, {1, NONE, 5}, {2, 0, 0}});
-        dueColumns(x, 1, 0, new int[][] {{NONE, 0, 5}, {NONE, 1, 5}, {0, 2, 0}});
-        dueColumns(x, 2, 1, new int[][] {{0, NONE, 0}, {1, 0, 0}});
-        dueColumns(x, 0, 3, new int[][] {{0, NONE, 5}, {1, 0, 0}, {2, 1, 0}});
-    }
-
-    private static void dueColumns(TuneHouse x, int one, int other, int[][] rows) {
-        for (int i = 0; i < rows.length; i++) {
-            for (int what = 0; what < 3; what++) {
-                String call = "column(" + one + ", " + other + ", 0, " + i + ", " + what + ")";
-                is.due(call, x.column(one, other, 0, i, what), rows[i][what]);
-            }
-        }
-        is.due("past the last of " + one + ", " + other, x.column(one, other, 0, rows.length, 2), NONE);
+        is.dueColumns(x, 0, 1, new int[][] {{0, NONE, 5}, {1, NONE, 5}, {2, 0, 0}});
+        is.dueColumns(x, 1, 0, new int[][] {{NONE, 0, 5}, {NONE, 1, 5}, {0, 2, 0}});
+        is.dueColumns(x, 2, 1, new int[][] {{0, NONE, 0}, {1, 0, 0}});
+        is.dueColumns(x, 0, 3, new int[][] {{0, NONE, 5}, {1, 0, 0}, {2, 1, 0}});
     }
 
     private static void linkedAtMostTheBar() {
