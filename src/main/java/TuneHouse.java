@@ -24,7 +24,8 @@ public final class TuneHouse {
     private static final int MOST_COLUMNS = 2 * MOST_NOTES;
     private static final int MOST_CORRECTIONS = 200;
     private static final int MOST_DOUBLES = 60;
-    private static final int NO_BOUND = Integer.MAX_VALUE;
+    // Far above the dearest sum: 24 columns of two at 500 each.
+    private static final int NO_BOUND = 1000000;
 
     private final Prices prices = new Prices();
     private final Aligner aligner = new Aligner(prices);
