@@ -42,6 +42,10 @@ final class Checks {
         due(of + rows.length + ", 2)", x.column(one, other, 0, rows.length, 2), TuneHouse.NONE);
     }
 
+    int asked() {
+        return asked;
+    }
+
     boolean isAnyWrong() {
         return wrong > 0;
     }

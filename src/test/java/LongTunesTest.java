@@ -10,20 +10,25 @@ public final class LongTunesTest {
     public static void main(String[] args) {
         for (int run = 0; run < 18; run++) {
             is.part("run " + run);
-            Random dice = new Random(1000 + run);
-            TuneHouse x = new TuneHouse();
-            write(x, dice, run % 2 == 0 ? 12 : 61);
-            // The PRICES of a new house first, then others.
-            prices = new int[] {2, 8, 1, 5};
-            for (int which = 0; which < prices.length && run >= 6; which++) {
-                prices[which] = dice.nextInt(which % 2 == 0 ? 6 : 30);
-                is.due("price", x.price(which, prices[which]), true);
-            }
-            for (int call = 0; call < 9; call++) {
-                askAll(x, call / 3, call % 3);
+            for (int pair = 0; pair < 9; pair++) {
+                // The same house again for each pair: one house takes 512 calls.
+                askAll(houseOf(run), pair / 3, pair % 3);
             }
         }
         is.end();
+    }
+
+    private static TuneHouse houseOf(int run) {
+        Random dice = new Random(1000 + run);
+        TuneHouse x = new TuneHouse();
+        write(x, dice, run % 2 == 0 ? 12 : 61);
+        // The PRICES of a new house first, then others.
+        prices = new int[] {2, 8, 1, 5};
+        for (int which = 0; which < prices.length && run >= 6; which++) {
+            prices[which] = dice.nextInt(which % 2 == 0 ? 6 : 30);
+            is.due("price", x.price(which, prices[which]), true);
+        }
+        return x;
     }
 
     private static void write(TuneHouse x, Random dice, int pitches) {

@@ -5,10 +5,12 @@ import java.util.TreeSet;
 
 /**
  * The document's terms written down as they stand, with nothing kept between calls: every
- * ALIGNMENT is looked at, one by one. Good for TUNES of a few NOTES.
+ * ALIGNMENT of TUNES of a few NOTES is looked at, one by one; those of long ones are summed up.
  */
 final class Model {
     private static final int[] TOPS = {20, 200, 20, 200, 10000};
+    // So many NOTES of both have some 1,700 ALIGNMENTS at most.
+    private static final int FEW = 10;
 
     private record Note(int pitch, int beats) {
         boolean isGap() {
@@ -324,7 +326,11 @@ final class Model {
         Told best = null;
         for (int k = -12; k <= 12; k++) {
             List<Told> every = new ArrayList<>();
-            align(t, u, k, new ArrayList<>(), every);
+            if (t.size() + u.size() <= FEW) {
+                align(t, u, k, new ArrayList<>(), every);
+            } else {
+                every.add(summedUp(t, u, k));
+            }
             for (Told a : every) {
                 if (best == null || isBetter(a, best)) {
                     best = a;
@@ -355,6 +361,50 @@ final class Model {
         if (j < u.size()) {
             go(t, u, k, done, every, new Column(-1, j, u.get(j).isGap() ? 0 : prices[3]));
         }
+    }
+
+    /** The one ALIGNMENT told with a KEY, found from the sums of the first NOTES of both. */
+    private Told summedUp(List<Note> t, List<Note> u, int k) {
+        int[][] sums = new int[t.size() + 1][u.size() + 1];
+        for (int i = 0; i <= t.size(); i++) {
+            for (int j = 0; j <= u.size(); j++) {
+                int sort = lastSort(sums, t, u, k, i, j);
+                sums[i][j] = i == 0 && j == 0 ? 0 : lastSum(sums, t, u, k, i, j, sort);
+            }
+        }
+        ArrayList<Column> columns = new ArrayList<>();
+        int i = t.size();
+        int j = u.size();
+        while (i > 0 || j > 0) {
+            int sort = lastSort(sums, t, u, k, i, j);
+            int before = sums[i - (sort < 2 ? 1 : 0)][j - (sort != 1 ? 1 : 0)];
+            int cost = lastSum(sums, t, u, k, i, j, sort) - before;
+            i -= sort < 2 ? 1 : 0;
+            j -= sort != 1 ? 1 : 0;
+            columns.add(0, new Column(sort < 2 ? i : -1, sort != 1 ? j : -1, cost));
+        }
+        return new Told(sums[t.size()][u.size()], k, columns);
+    }
+
+    /** 0 two, 1 t's NOTE alone, 2 u's alone: the first of those with the least sum. */
+    private int lastSort(int[][] sums, List<Note> t, List<Note> u, int k, int i, int j) {
+        int best = 0;
+        for (int sort = 1; sort <= 2; sort++) {
+            boolean less = lastSum(sums, t, u, k, i, j, sort) < lastSum(sums, t, u, k, i, j, best);
+            best = less ? sort : best;
+        }
+        return best;
+    }
+
+    private int lastSum(int[][] sums, List<Note> t, List<Note> u, int k, int i, int j, int sort) {
+        if (i == 0 && sort < 2 || j == 0 && sort != 1) {
+            return 1000000;
+        }
+        return switch (sort) {
+            case 0 -> sums[i - 1][j - 1] + two(t.get(i - 1), u.get(j - 1), k);
+            case 1 -> sums[i - 1][j] + (t.get(i - 1).isGap() ? 0 : prices[3]);
+            default -> sums[i][j - 1] + (u.get(j - 1).isGap() ? 0 : prices[3]);
+        };
     }
 
     private void go(List<Note> t, List<Note> u, int k, List<Column> done, List<Told> every, Column next) {

@@ -1,10 +1,11 @@
 import java.util.NoSuchElementException;
 import java.util.Random;
 
-/** Runs of 512 calls, the same ones each time, on a TuneHouse and on the Model beside it. */
+/** Runs of 503 to 512 calls, the same ones each time, on a TuneHouse and on the Model beside it. */
 public final class ModelTest {
-    private static final int RUNS = Integer.getInteger("runs", 24);
+    private static final int RUNS = Integer.getInteger("runs", 32);
     private static final int CALLS = 512;
+    private static final int MOST_AT_ONCE = 10;
     private static final Checks is = new Checks();
     private static Random dice;
     private static TuneHouse x;
@@ -19,11 +20,17 @@ public final class ModelTest {
             dice = new Random(run);
             x = new TuneHouse();
             m = new Model();
-            mostNotes = 2 + run % 3;
-            pitches = run % 2 == 0 ? 8 : 61;
-            lowPitch = run % 2 == 0 ? 20 : 0;
-            for (int call = 0; call < CALLS; call++) {
-                if (dice.nextInt(100) < (call < 120 ? 85 : 20)) {
+            // In each fourth run the TUNES are as long as they can be.
+            mostNotes = run % 4 == 3 ? 24 : 2 + run % 3;
+            boolean isNarrow = (run + run / 4) % 2 == 0;
+            pitches = isNarrow ? 8 : 61;
+            lowPitch = isNarrow ? 20 : 0;
+            int before = is.asked();
+            if (mostNotes == 24) {
+                writeLong();
+            }
+            while (is.asked() - before <= CALLS - MOST_AT_ONCE) {
+                if (dice.nextInt(100) < (is.asked() - before < 120 ? 85 : 20)) {
                     change();
                 } else {
                     ask();
@@ -31,6 +38,26 @@ public final class ModelTest {
             }
         }
         is.end();
+    }
+
+    /** Some SHEETS full of NOTES, or nearly so, each much like the first one in another key. */
+    private static void writeLong() {
+        int sheets = 5 + dice.nextInt(4);
+        int[] first = new int[24];
+        for (int i = 0; i < first.length; i++) {
+            first[i] = anyPitch();
+        }
+        for (int s = 0; s < sheets; s++) {
+            int year = 1800 + dice.nextInt(3);
+            int up = s == 0 ? 0 : dice.nextInt(16) - 8;
+            is.due("sheet", x.sheet(s % 6, year, s), m.sheet(s % 6, year, s));
+            int notes = 20 + dice.nextInt(5);
+            for (int i = 0; i < notes; i++) {
+                int p = dice.nextInt(5) == 0 ? anyPitch() : first[i] == -1 ? -1 : first[i] + up;
+                int b = dice.nextInt(5) == 0 ? anyBeats() : 1 + i % 3;
+                is.due("note", x.note(s, p, b), m.note(s, p, b));
+            }
+        }
     }
 
     /** Mostly 0 .. top, now and then beyond. */
@@ -56,7 +83,12 @@ public final class ModelTest {
     }
 
     private static int anyBar() {
-        return dice.nextInt(10) == 0 ? upTo(10000) : dice.nextInt(30);
+        return dice.nextInt(10) == 0 ? upTo(10000) : dice.nextInt(far());
+    }
+
+    /** Some DISTANCES are below, and some above: long TUNES are further apart. */
+    private static int far() {
+        return mostNotes == 24 ? 120 : 30;
     }
 
     private static void change() {
@@ -72,7 +104,7 @@ public final class ModelTest {
                     m.sheet(hand, year, words));
             }
             case 2, 3, 4, 5 -> {
-                // The model looks at every ALIGNMENT, so TUNES stay short.
+                // The model looks at every ALIGNMENT of a few NOTES, so most TUNES stay short.
                 if (hasRoom(s)) {
                     is.due("note(" + s + ", " + p + ", " + b + ")", x.note(s, p, b), m.note(s, p, b));
                 }
@@ -97,7 +129,7 @@ public final class ModelTest {
             }
             default -> {
                 int which = upTo(4);
-                int[] tops = {4, 12, 4, 8, 40};
+                int[] tops = {4, 12, 4, 8, far() + 10};
                 int coins = which < 0 || which > 4 ? 3 : upTo(dice.nextInt(20) == 0 ? 200 : tops[which]);
                 is.due("price(" + which + ", " + coins + ")", x.price(which, coins), m.price(which, coins));
             }
@@ -128,7 +160,8 @@ public final class ModelTest {
             case 1 -> is.due("distance" + of, x.distance(s, o, q), m.distance(s, o, q));
             case 2 -> is.due("key" + of, x.key(s, o, q), m.key(s, o, q));
             case 3, 4 -> {
-                for (int i = -1; i <= 2 * mostNotes; i++) {
+                int first = mostNotes == 24 ? dice.nextInt(44) : -1;
+                for (int i = first; i < first + MOST_AT_ONCE; i++) {
                     int what = upTo(2);
                     is.due("column " + i + ", " + what + of, x.column(s, o, q, i, what), m.column(s, o, q, i, what));
                 }
